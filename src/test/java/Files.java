@@ -2,10 +2,10 @@ import java.io.ByteArrayOutputStream;
 import java.nio.ByteBuffer;
 import java.nio.ByteOrder;
 import java.util.Arrays;
+import java.util.function.Supplier;
 
 /** The document's files, built a second time and apart from the program, to tell what is due on the disk. */
 final class Files {
-    static final int HEADER = 13;
     static final int SEALED_HEADER = 21;
     static final int AROUND_CONTENT = 29;
 
@@ -53,6 +53,10 @@ final class Files {
         return Arrays.copyOf(block(k, bytes.length, -1, z), 4);
     }
 
+    static byte[] firstTwo(int[] seal) {
+        return little(new byte[8]).putInt(seal[0]).putInt(seal[1]).array();
+    }
+
     static int[] key(long password, int salt, int rounds) {
         int[] k = seal(new byte[0], new int[] {(int) password, (int) (password >> 32), salt, 0}, 1);
         for (int i = 0; i < rounds; i++) {
@@ -71,28 +75,26 @@ final class Files {
         return Arrays.copyOf(all.array(), bytes);
     }
 
-    static byte[] file(long password, int salt, int rounds, int serial, byte[] content) {
-        return file(0x56, 0x32, password, salt, rounds, serial, content.length, content);
+    /** A content as it stands on the disk, or the other way. */
+    static byte[] streamed(byte[] content, int[] key, int serial) {
+        byte[] other = stream(key, serial, content.length);
+        for (int j = 0; j < content.length; j++) {
+            other[j] ^= content[j];
+        }
+        return other;
     }
 
-    /** A file whose seals are right, whatever its header says. */
-    static byte[] file(int mark0, int mark1, long password, int salt, int rounds, int serial, int told,
-            byte[] content) {
-        int[] key = key(password, salt, rounds);
-        ByteBuffer header = little(new byte[HEADER]);
+    static byte[] header(int mark0, int mark1, int serial, int salt, int rounds, int contentBytes) {
+        ByteBuffer header = little(new byte[13]);
         header.put((byte) mark0).put((byte) mark1).putInt(serial).putInt(salt);
-        header.put((byte) rounds).putShort((short) told);
-        int[] headerSeal = seal(header.array(), key, 3);
-        ByteBuffer before = little(new byte[SEALED_HEADER + content.length]);
-        before.put(header.array()).putInt(headerSeal[0]).putInt(headerSeal[1]);
-        byte[] stream = stream(key, serial, content.length);
-        for (int j = 0; j < content.length; j++) {
-            before.put((byte) (content[j] ^ stream[j]));
-        }
-        int[] fileSeal = seal(before.array(), key, 4);
-        ByteBuffer whole = little(new byte[content.length + AROUND_CONTENT]);
-        whole.put(before.array()).putInt(fileSeal[0]).putInt(fileSeal[1]);
-        return whole.array();
+        return header.put((byte) rounds).putShort((short) contentBytes).array();
+    }
+
+    static byte[] file(long password, int salt, int rounds, int serial, byte[] content) {
+        int[] key = key(password, salt, rounds);
+        byte[] header = header(0x56, 0x32, serial, salt, rounds, content.length);
+        byte[] before = joined(header, firstTwo(seal(header, key, 3)), streamed(content, key, serial));
+        return joined(before, firstTwo(seal(before, key, 4)));
     }
 
     /** Of each entry a row: its name, its value, its old values. */
@@ -110,11 +112,40 @@ final class Files {
         return out.toByteArray();
     }
 
+    /** Entries of the names 1, 2, .. with so many old values each, and each long another. */
+    static long[][] rows(int entries, int oldValues) {
+        long[][] rows = new long[entries][2 + oldValues];
+        for (int i = 0; i < entries; i++) {
+            rows[i][0] = i + 1;
+            for (int v = 1; v < rows[i].length; v++) {
+                rows[i][v] = 0x1122334455667788L * (i + 1) + v;
+            }
+        }
+        return rows;
+    }
+
+    static byte[] joined(byte[]... parts) {
+        ByteArrayOutputStream out = new ByteArrayOutputStream();
+        for (byte[] part : parts) {
+            out.writeBytes(part);
+        }
+        return out.toByteArray();
+    }
+
     /** Lays bytes on a disk that is all 0 there, with as few calls as it takes. */
-    static void lay(CrashVault vault, int slot, byte[] bytes) {
+    static void lay(CrashVault vault, int from, byte[] bytes) {
         for (int i = 0; i < bytes.length; i++) {
             if (bytes[i] != 0) {
-                vault.spoil(300 * slot + i, bytes[i]);
+                vault.spoil(from + i, bytes[i]);
+            }
+        }
+    }
+
+    /** Puts the values of the entries, the oldest first. */
+    static void put(CrashVault vault, long[]... entries) {
+        for (long[] entry : entries) {
+            for (int v = entry.length - 1; v >= 1; v--) {
+                vault.put(entry[0], entry[v]);
             }
         }
     }
@@ -123,6 +154,13 @@ final class Files {
         for (int i = 0; i < bytes.length; i++) {
             Check.due(what + ": disk(" + (from + i) + ")", vault.disk(from + i), bytes[i] & 0xff);
         }
+    }
+
+    /** The whole disk: these bytes from slot 0's and slot 1's beginning on, and 0 behind them. */
+    static void dueOnWholeDisk(String what, Supplier<CrashVault> made, byte[] slot0, byte[] slot1) {
+        // Two vaults, for one has only 512 calls.
+        dueOnDisk(what, made.get(), 0, Arrays.copyOf(slot0, 300));
+        dueOnDisk(what, made.get(), 300, Arrays.copyOf(slot1, 300));
     }
 
     private static ByteBuffer little(byte[] bytes) {

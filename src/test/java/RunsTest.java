@@ -1,3 +1,4 @@
+import java.util.Arrays;
 import java.util.Random;
 import java.util.function.LongSupplier;
 
@@ -9,6 +10,12 @@ public final class RunsTest {
     private static final long[] NAMES = {0, 1, 2, 3, -1, -2, 1L << 32, 1L << 33, Long.MIN_VALUE, Long.MAX_VALUE, 9, 10};
     private static final long[] VALUES = {0, 1, -1, Long.MAX_VALUE, 1L << 32};
     private static final int[] ROUNDS = {1, 2, 3, 40, 1, 2, 3, 4, 1, 2, 0, 41};
+    private static final int[] SERIALS = {0, 1, 2, -1, Integer.MAX_VALUE, Integer.MAX_VALUE - 1, Integer.MIN_VALUE};
+    private static final byte[][] CONTENTS = {Files.content(), Files.content(Files.rows(1, 0)),
+        Files.content(Files.rows(2, 2)), Files.content(new long[] {-1, 5, 5, 5}, new long[] {1, 0}),
+        Files.content(new long[] {1, 0}, new long[] {-1, 5}), Files.content(new long[] {0, 1}),
+        Files.content(Files.rows(1, 3)), Files.content(Files.rows(8, 0)), Files.content(Files.rows(9, 0)),
+        Arrays.copyOf(Files.content(Files.rows(2, 1)), 50)};
 
     private final Random random;
     private final CrashVault vault = new CrashVault();
@@ -28,9 +35,31 @@ public final class RunsTest {
     }
 
     private void calls(int run) {
-        for (int call = 0; call < CALLS; call++) {
+        int call = run % 3 == 0 ? forge("run " + run + ", forging: ") : 0;
+        for (; call < CALLS; call++) {
             oneCall("run " + run + ", call " + call + ": ");
         }
+    }
+
+    /** Lays files in the slots, good ones and such with right seals that are not; tells how many calls it took. */
+    private int forge(String where) {
+        int calls = 0;
+        for (int slot = 0; slot < 2; slot++) {
+            long password = PASSWORDS[random.nextInt(random.nextInt(4) == 0 ? PASSWORDS.length : 1)];
+            byte[] content = CONTENTS[random.nextInt(CONTENTS.length)];
+            byte[] file = Files.file(password, random.nextInt(), ROUNDS[random.nextInt(ROUNDS.length)],
+                SERIALS[random.nextInt(SERIALS.length)], content);
+            for (int i = 0; i < file.length; i++) {
+                int at = 300 * slot + i;
+                int bits = file[i];
+                if (bits != 0) {
+                    same(where + "spoil " + at, () -> run(() -> vault.spoil(at, bits)),
+                        () -> run(() -> model.spoil(at, bits)));
+                    calls++;
+                }
+            }
+        }
+        return calls;
     }
 
     private void oneCall(String where) {
