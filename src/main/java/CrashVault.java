@@ -410,9 +410,10 @@ public final class CrashVault {
             if (size < 1 || row[start] > MOST) {
                 return false;
             }
+            int many = row[start];
             int end = start + size;
             int at = start + 1;
-            for (int i = 0; i < row[start]; i++) {
+            for (int i = 0; i < many; i++) {
                 if (!readEntry(row, at, end)) {
                     return false;
                 }

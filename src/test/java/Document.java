@@ -5,6 +5,8 @@ import java.util.LinkedHashMap;
 import java.util.List;
 import java.util.Map;
 import java.util.Set;
+import java.util.regex.MatchResult;
+import java.util.regex.Pattern;
 
 /** The document's sections, and which of their words a test has quoted. */
 final class Document {
@@ -18,6 +20,8 @@ final class Document {
         }
     }
 
+    private static final Pattern FACE_LINE = Pattern.compile("public [^;{]*;");
+
     private final Map<String, Section> sections = new LinkedHashMap<>();
 
     static Document read(Path path) throws IOException {
@@ -29,6 +33,12 @@ final class Document {
             document.sections.put(headingAndBody[0].trim(), new Section(body.replaceFirst("^`[^`]*`: ", "")));
         }
         return document;
+    }
+
+    /** The lines of the class that the document writes out, without their margin. */
+    List<String> face() {
+        return List.of(FACE_LINE.matcher(sections.get("The public face").text).results()
+            .map(MatchResult::group).toArray(String[]::new));
     }
 
     Set<String> headings() {
